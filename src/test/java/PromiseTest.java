@@ -367,6 +367,8 @@ public final class PromiseTest {
         y.entry(0, 511, 1);
         y.ask(0, 1, 1);
         due("total(512)", y.total(512), 1);
+        y.entry(0, 0, 1);
+        due("total(512)", y.total(512), 2);
     }
 
     private static void walkJudges() {
@@ -418,6 +420,15 @@ public final class PromiseTest {
         dueTold(x, 3, 1, 0, 3, 0, 0, 8);
         dueObjects(x, 7);
         dueNumbers(x, 6);
+        // LIST 0 alone is NEEDED: 5 is passed.
+        x.ask(0, 2, 1);
+        x.ask(1, 1, 1);
+        x.ask(2, 0, 1);
+        x.lose(0, 1);
+        x.lose(0, 2);
+        due("walk(10)", x.walk(10), 2);
+        dueTold(x, 4, 2, 0, 1, 0, 0, 512);
+        dueObjects(x, 7, 8);
     }
 
     private static void walkSkips() {
@@ -430,6 +441,9 @@ public final class PromiseTest {
         due("walk(10)", x.walk(10), 1);
         dueTold(x, 4, 2, 1, 7, 0, 20, 512);
         dueObjects(x, 8);
+        // All is counted afresh.
+        due("walk(10)", x.walk(10), 1);
+        dueTold(x, 4, 2, 1, 7, 0, 20, 512);
         BoundEnding y = new BoundEnding();
         fill(y, 0, 0, 10, 1, 1, 2, 1, 3, 1, 4, 1, 6, 1, 7, 1, 8, 1, 9, 20);
         fill(y, 1, 5, 3);
@@ -619,6 +633,12 @@ public final class PromiseTest {
         x.ask(0, 0, 1);
         due("anew(3, 9)", x.anew(3, 9), 3);
         dueNumbers(x, 1000, 500, 3, -71);
+        // Behind a walk() again: SUM and f times KEY.
+        x.ask(0, 1, 1);
+        x.walk(100);
+        due("anew(2, 2)", x.anew(2, 2), 2);
+        dueObjects(x, 1, 2, 3, 4);
+        dueNumbers(x, 1010, 10, 6, 4);
     }
 
     private static void answer() {
@@ -712,7 +732,14 @@ public final class PromiseTest {
         x.lose(11, 440);
         x.wanted(7);
         x.ask(3, 0, 1);
+        due("count(14)", x.count(14), 1);
         x.ask(8, 0, 1);
+        due("count(12)", x.count(12), 5);
+        due("count(13)", x.count(13), 2);
+        due("count(14)", x.count(14), 0);
+        x.ask(0, 3, 1);
+        due("count(14)", x.count(14), 1);
+        x.ask(0, 0, 1);
         due("walk(10000)", x.walk(10000), 3);
         due("count(15)", x.count(15), 7);
         due("count(16)", x.count(16), 3);
