@@ -1923,6 +1923,21 @@ public final class BoundaryTest {
             x.walk(9);
             dueTold(x, 6, 3, 2, 6, AT_END, 20, 512);
         });
+        sentence("3 ENTRIES PASSED", "by STEPS 3, 4 and 5 together", x -> {
+            asked(x, 0, 2, 10, 3, 1, 15, 1);
+            asked(x, 1, 2, 1, 6, 1, 7, 1, 8, 1, 9, 1, 10, 1, 11, 1, 12, 1, 20, 20);
+            needed(x, 2, 2, 1, 6, 1, 20, 1);
+            asked(x, 3, 0, 1, 1, 1);
+            x.wanted(1);
+            // To 2, over 0 and 1 (STEP 3), which is JUDGED: FLOOR 12. Then q is 6, LINE 0 at 3; BLOCKS 10, 1 and 1
+            // are not above 12: a SKIP to 13, over 3, 6 .. 12 and 6. There q is 20, where LINE 2 is: over 15 (STEP 5).
+            x.walk(9);
+            dueTold(x, 6, 2, 1, 2 + 1 + 7 + 1 + 1, AT_END, 21, 512);
+            x.walk(1);
+            due("told(3) behind 1", x.told(3), 2);
+            x.walk(3);
+            due("told(3) behind 3", x.told(3), 11);
+        });
         sentence("4 how it ended (0 at its END, 1 EARLY, 2 CUT OFF)", x -> {
             asked(x, 0, 4, 1, 5, 1);
             x.walk(9);
