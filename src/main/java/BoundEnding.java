@@ -386,7 +386,7 @@ public final class BoundEnding {
                 if (isIn ? sorts[list] == BARRED : sorts[list] == NEEDED) {
                     return false;
                 }
-                isAskedFor |= isIn && asksFor(list);
+                isAskedFor = isAskedFor || isIn && asksFor(list);
             }
             return isAskedFor;
         }

@@ -23,7 +23,9 @@ public final class LanguageTest {
         "\\bthrows?\\b", "\\btry\\b", "\\bcatch\\b", "\\bsynchronized\\b", "\\bassert\\b", "\\bimport\\b",
         "\\bpackage\\b", "->", "::", "\\bstatic\\s*\\{", "\\w+Exact\\b", "\\bObject\\b", "\\bnull\\b",
         "\\bequals\\b", "\\bhashCode\\b", "\\btoString\\b", "\\bThread\\b", "\\bRandom\\b", "\\bcurrentTimeMillis\\b",
-        "\\bnanoTime\\b", "\\bgetenv\\b", "\\bfloat\\b", "\\bdouble\\b", "\""
+        "\\bnanoTime\\b", "\\bgetenv\\b", "\\bfloat\\b", "\\bdouble\\b", "\"",
+        // Rule 10 names && and || alone for what is true or not; masks of numbers are not needed here.
+        "(?<!\\|)\\|(?!\\|)", "(?<!&)&(?!&)"
     };
     private static int wrong = 0;
 
